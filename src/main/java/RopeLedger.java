@@ -288,7 +288,7 @@ public final class RopeLedger {
             return NONE;
         }
         weights.weigh(now);
-        if (weights.without(0) < load) {
+        if (weights.without(now, 0) < load) {
             return 0;
         }
         // no strand bears less than nothing, so without all of them it bears least
@@ -302,7 +302,7 @@ public final class RopeLedger {
         int found = NO_WAY;
         for (int cut = 1; cut <= there; cut++) {
             boolean better = (cut & ~there) == 0 && Integer.bitCount(cut) < fewest;
-            if (better && weights.without(cut) < load) {
+            if (better && weights.without(now, cut) < load) {
                 fewest = Integer.bitCount(cut);
                 found = cut;
             }
@@ -338,7 +338,7 @@ public final class RopeLedger {
             return NONE;
         }
         weights.weigh(now);
-        return weights.untwisted() + pairing.gain(weights.single, now.thereBits(), k);
+        return weights.untwisted(now) + pairing.gain(weights.single, now.thereBits(), k);
     }
 
     public int partner(int k, int strand) {
@@ -517,7 +517,7 @@ public final class RopeLedger {
         boolean eastCuts = deeds / 2 == 1;
         boolean westCuts = deeds % 2 == 1;
         int cut = (eastCuts ? now.strandsOfSide(0) : 0) | (westCuts ? now.strandsOfSide(1) : 0);
-        int way = weights.without(cut) >= 1 ? worth : 0;
+        int way = weights.without(now, cut) >= 1 ? worth : 0;
         boolean cuts = side == 0 ? eastCuts : westCuts;
         return cuts ? way + now.owedOn(now.strandsOfSide(side)) : way;
     }
@@ -859,7 +859,6 @@ public final class RopeLedger {
                 tied[strands] = year;
                 status[strands] = THERE;
                 twin[strands] = NONE;
-                paintedBits &= ~(1 << strands);
                 strands++;
             }
         }
@@ -1104,35 +1103,30 @@ public final class RopeLedger {
     private static final class Weights {
         final int[] single = new int[STRAND_ROOM];
         final int[] inTwist = new int[STRAND_ROOM];
-        private Bridge bridge;
 
-        void weigh(Bridge weighed) {
-            bridge = weighed;
-            for (int i = 0; i < weighed.strands && i < STRAND_ROOM; i++) {
-                single[i] = weighed.alone(i, 0);
-                inTwist[i] = weighed.twoOf(i) == 1 ? weighed.alone(i, 1) : 0;
+        void weigh(Bridge bridge) {
+            for (int i = 0; i < bridge.strands && i < STRAND_ROOM; i++) {
+                single[i] = bridge.alone(i, 0);
+                inTwist[i] = bridge.twoOf(i) == 1 ? bridge.alone(i, 1) : 0;
             }
         }
 
-        int untwisted() {
-            int sum = bridge == null ? 0 : bridge.plank;
-            for (int i = 0; bridge != null && i < bridge.strands && i < STRAND_ROOM; i++) {
+        int untwisted(Bridge bridge) {
+            int sum = bridge.plank;
+            for (int i = 0; i < bridge.strands && i < STRAND_ROOM; i++) {
                 sum += single[i];
             }
             return sum;
         }
 
-        int without(int cut) {
-            if (bridge == null) {
-                return 0;
-            }
+        int without(Bridge bridge, int cut) {
             int sum = bridge.plank;
-            for (int i = 0; i < bridge.strands; i++) {
-                if (!stays(i, cut)) {
+            for (int i = 0; i < bridge.strands && i < STRAND_ROOM; i++) {
+                if (!stays(bridge, i, cut)) {
                     continue;
                 }
                 int other = bridge.twin[i];
-                if (!stays(other, cut)) {
+                if (!stays(bridge, other, cut)) {
                     sum += single[i];
                 } else if (i < other) {
                     int both = inTwist[i] + inTwist[other];
@@ -1142,7 +1136,7 @@ public final class RopeLedger {
             return sum;
         }
 
-        private boolean stays(int i, int cut) {
+        private static boolean stays(Bridge bridge, int i, int cut) {
             return bridge.isThere(i) && (cut >> i & 1) == 0;
         }
     }
@@ -1219,24 +1213,23 @@ public final class RopeLedger {
     /** In which order strands can be paid. */
     private static final class Payments {
         final int[] chosen = new int[STRAND_ROOM];
-        /** A bit for each set of strands paid from which the end can't be reached: purses and bridge depend on the set alone. */
+        /** A bit for each set of strands paid from which the end can't be reached: all depends on the set alone. */
         private final int[] dead = new int[(1 << STRAND_ROOM) / 32];
-        private Bridge bridge;
         private int wanted;
         private int load;
 
-        boolean search(Bridge tried, int strands, int least) {
-            bridge = tried;
+        /** Pays on the bridge that is given, which must be one to try on. */
+        boolean search(Bridge bridge, int strands, int least) {
             wanted = strands;
             load = least;
             for (int i = 0; i < dead.length; i++) {
                 dead[i] = 0;
             }
-            return endBears() && payRest(0, 0);
+            return endBears(bridge) && payRest(bridge, 0, 0);
         }
 
         /** Looked at first: most loads that can't be kept fail at the end, whatever the order. */
-        private boolean endBears() {
+        private boolean endBears(Bridge bridge) {
             for (int i = 0; i < STRAND_ROOM; i++) {
                 if ((wanted >> i & 1) == 1) {
                     bridge.payOut(i);
@@ -1251,7 +1244,7 @@ public final class RopeLedger {
             return borne;
         }
 
-        private boolean payRest(int paid, int depth) {
+        private boolean payRest(Bridge bridge, int paid, int depth) {
             if (paid == wanted) {
                 return true;
             }
@@ -1262,7 +1255,7 @@ public final class RopeLedger {
                     continue;
                 }
                 bridge.payOut(i);
-                if (bridge.bridgeBears() >= load && payRest(behind, depth + 1)) {
+                if (bridge.bridgeBears() >= load && payRest(bridge, behind, depth + 1)) {
                     chosen[depth] = i;
                     return true;
                 }
@@ -1674,10 +1667,10 @@ public final class RopeLedger {
                 return fail(UNFIT);
             }
             tokens.advance();
-            return number(1, MOST_OWED) && debtNumbers(from, to, read);
-        }
-
-        private boolean debtNumbers(int from, int to, int owed) {
+            if (!number(1, MOST_OWED)) {
+                return false;
+            }
+            int owed = read;
             if (!number(0, 99)) {
                 return false;
             }

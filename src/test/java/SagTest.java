@@ -12,6 +12,7 @@ public final class SagTest {
     overYears();
     telling();
     tellingNow();
+    theLastLoad();
     KIT.end();
   }
 
@@ -131,9 +132,23 @@ public final class SagTest {
     KIT.due("90, 80, 70 or 100", x.tells(1), 4);
     KIT.due("the first load that tells four", x.tells(0), firstApart(new int[] {90, 80, 70, 100}));
     x.undo();
+    KIT.due("50, 40, 30 or 60", x.tells(0), 2);
     x.forgive(1);
     KIT.due("1 and none are alike now: 30, 40, 10, 40", x.tells(1), 3);
     KIT.due("1 by 30, 40, 10: 3, 2, 10", x.tells(0), 1);
+  }
+
+  /** Without 0 it bears 20000, with all 20010, so no load below 200 tells them apart. */
+  private static void theLastLoad() {
+    RopeLedger x = KIT.told(TWO + "debt a b 1 0 99;debt a b 999 0 99;debt a b 999 0 99;plank 20;law bear owed * 10;", 7);
+    x.see(0, 999, 5, false);
+    KIT.due("0 and none", x.painted(), 9);
+    KIT.due("200", x.tells(0), 200);
+    KIT.due("two ways", x.tells(1), 2);
+    x = KIT.told(TWO + "debt a b 1 0 99;debt a b 999 0 99;debt a b 999 0 99;plank 120;law bear owed * 10;", 7);
+    x.see(0, 999, 5, false);
+    KIT.due("201 isn't asked", x.tells(0), 1);
+    KIT.due("one way", x.tells(1), 1);
   }
 
   private static int firstApart(int[] borne) {

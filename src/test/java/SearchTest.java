@@ -5,6 +5,7 @@ public final class SearchTest {
 
   public static void main(String[] args) {
     orders();
+    ordersOfMany();
     ordersByRiches();
     drops();
     loans();
@@ -41,6 +42,21 @@ public final class SearchTest {
     KIT.due("purse", Kit.person(x, 0, 0), 50);
   }
 
+  private static void ordersOfMany() {
+    RopeLedger x = KIT.told(TWO + "debt b a 60 0 9;" + "debt a b 1 0 9;".repeat(4) + "debt a b 40 0 9;" + "debt a b 2 0 9;".repeat(4), 12);
+    x.tie(1, 0, 20, 9);
+    x.tie(1, 0, 999, 9);
+    KIT.due("5 first", x.order(33, 0, 0), 5);
+    KIT.due("then 0", x.order(33, 0, 1), 0);
+    KIT.due("the last is never paid", x.order(4095, 0, 0), -2);
+    int[] want = {1, 2, 3, 4, 5, 0, 6, 7, 8, 9, 10};
+    for (int k = 0; k < want.length; k++) {
+      KIT.due("eleven, k " + k, x.order(2047, 999, k), want[k]);
+    }
+    KIT.due("eleven, load 1000", x.order(2047, 1000, 0), -2);
+    KIT.due("twelve are no more", x.order(4096, 0, 0), -1);
+  }
+
   /** The bridge bears by how rich people are, so one order holds and another doesn't. */
   private static void ordersByRiches() {
     RopeLedger x = KIT.told(TWO + "debt a b 40 0 9;debt b a 30 0 9;debt a b 1 0 9;law bear rich * (owed = 1);", 6);
@@ -48,6 +64,7 @@ public final class SearchTest {
     KIT.due("1 first: it bears 80", x.order(3, 11, 0), 1);
     KIT.due("1 first", x.order(3, 40, 0), 1);
     KIT.due("then 0", x.order(3, 40, 1), 0);
+    KIT.due("asked again", x.order(3, 10, 0), 0);
     KIT.due("41 can't be", x.order(3, 41, 0), -2);
     KIT.due("it bears 50 now, but that isn't asked", x.order(2, 80, 0), 1);
     KIT.due("81 can't be", x.order(2, 81, 0), -2);
@@ -140,6 +157,7 @@ public final class SearchTest {
     KIT.due("4 is with 10", x.partner(2, 3), 0);
     KIT.due("4 is alone", x.partner(2, 4), -2);
     KIT.due("none", x.partner(0, 0), -2);
+    KIT.due("k 5", x.partner(5, 0), 3);
     KIT.due("no such k", x.partner(6, 0), -1);
     KIT.due("no such k", x.partner(-1, 0), -1);
     KIT.due("no such strand", x.partner(1, 5), -1);

@@ -53,6 +53,20 @@ public final class TextTest {
     KIT.due("fault(0)", x.fault(0), 0);
     KIT.due("fault(1)", x.fault(1), -1);
     KIT.due("plank", x.count(12), 7);
+    cutByN("law bear 1<=2;", 11, 11);
+    cutByN("law bear 1>=2;", 10, 10);
+    cutByN("planks 1;", 5, 5);
+    cutByN("plank 1000;", 9, 9);
+    cutByN("person a east 1 1 ;", 18, 18);
+  }
+
+  /** What stands on the tape behind the first n bytes isn't read. */
+  private static void cutByN(String text, int n, int place) {
+    RopeLedger x = new RopeLedger();
+    Kit.feed(x, text);
+    KIT.due("text(" + n + ") of " + text, x.text(n), -1);
+    KIT.due("fault", x.fault(0), 1);
+    KIT.due("place", x.fault(1), place);
   }
 
   private static void telling() {
@@ -83,6 +97,7 @@ public final class TextTest {
     KIT.due("sags", x.count(13), 0);
     KIT.due("known", x.count(14), 0);
     KIT.due("to undo", x.count(15), 0);
+    KIT.due("no strands told", x.painted(), 1);
     KIT.due("no image", x.back(), -1);
     KIT.due("no undo", x.undo(), -1);
     x.see(0, 1, 1, true);
@@ -183,7 +198,9 @@ public final class TextTest {
     fault(TWO + "debt a b 1 0 100;", 2, 49);
     fault(TWO + "cross a 100 0;", 2, 44);
     fault(TWO + "cross a 0 100;", 2, 46);
+    sound(TWO + "cross a 99 99;cross b 0 0;debt a b 999 99 99;debt b a 1 0 0;", 6);
     sound("plank 999;seed 99999;", 2);
+    sound("plank 0;seed 0;law bear 0;law fray 9999;", 4);
     fault("plank 1000;", 2, 6);
     fault("seed 100000;", 2, 5);
     fault("law bear 10000;", 2, 9);
@@ -208,6 +225,9 @@ public final class TextTest {
     fault(knots + "law fray (((1)+2", 2, knots.length() + 14);
     fault(knots + "law fray not 2;", 2, knots.length() + 13);
     fault(knots + "law fray 1 x;", 1, knots.length() + 11);
+    RopeLedger full = KIT.told(TWO + "debt a b 1 0 0;" + knots + "law rent 7;", 5);
+    KIT.due("all 64 are worked out", full.law(0, 0), 32);
+    KIT.due("all 64 are worked out", full.law(2, 0), 7);
     KIT.due("knots", KIT.told(knots + "law fray ((((age))));", 2).count(9), 64);
     KIT.due("knots", KIT.told("law bear not owed and 3 or (4 <= 5) * 2;", 1).count(9), 10);
   }

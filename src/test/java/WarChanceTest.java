@@ -143,5 +143,10 @@ public final class WarChanceTest {
     KIT.due("n", x.tried(0, 0, 50), 20 + 100 - 12);
     KIT.due("nothing went by", x.count(10), 0);
     KIT.due("nothing is gone", x.count(2), 3);
+    x = KIT.told(TWO + "debt a b 40 0 1 painted;debt a b 20 0 9 painted;", 4);
+    KIT.due("none of several is painted", x.tried(3, 0, 0), 60);
+    KIT.due("they are still", x.bears(), 0);
+    x.forgive(1);
+    KIT.due("one that isn't there is gone already", x.tried(2, 1, 0), 0);
   }
 }
