@@ -606,7 +606,7 @@ final class Model {
 
   long person(int i, int what) {
     if (!isPerson(i)) {
-      return 1000001;
+      return Kit.NO_PERSON;
     }
     Person p = now.persons.get(i);
     switch (what) {
@@ -616,7 +616,7 @@ final class Model {
       case 3: return p.stands;
       case 4: return now.owed(i, -1);
       case 5: return now.owed(-1, i);
-      default: return 1000002;
+      default: return Kit.NO_WHAT;
     }
   }
 

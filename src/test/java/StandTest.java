@@ -26,11 +26,11 @@ public final class StandTest {
     KIT.due("is owed", Kit.person(x, 1, 5), 51);
     KIT.due("owes", Kit.person(x, 2, 4), 5);
     KIT.due("is owed", Kit.person(x, 2, 5), 0);
-    KIT.due("no such what", Kit.person(x, 0, 6), 1000002);
-    KIT.due("no such what", Kit.person(x, 0, -1), 1000002);
-    KIT.due("no such person", Kit.person(x, 3, 0), 1000001);
-    KIT.due("no such person", Kit.person(x, -1, 0), 1000001);
-    KIT.due("no such person, no such what", Kit.person(x, 3, 6), 1000001);
+    KIT.due("no such what", Kit.person(x, 0, 6), Kit.NO_WHAT);
+    KIT.due("no such what", Kit.person(x, 0, -1), Kit.NO_WHAT);
+    KIT.due("no such person", Kit.person(x, 3, 0), Kit.NO_PERSON);
+    KIT.due("no such person", Kit.person(x, -1, 0), Kit.NO_PERSON);
+    KIT.due("no such person, no such what", Kit.person(x, 3, 6), Kit.NO_PERSON);
     x.forgive(0);
     KIT.due("owes without what is forgiven", Kit.person(x, 0, 4), 6);
     x.years(1);

@@ -117,10 +117,7 @@ public final class TextTest {
   }
 
   private static void fault(String text, int number, int place) {
-    RopeLedger x = new RopeLedger();
-    KIT.due("text " + text, Kit.tell(x, text), -1);
-    KIT.due("fault of " + text, x.fault(0), number);
-    KIT.due("its place in " + text, x.fault(1), place);
+    KIT.fault(text, number, place);
   }
 
   private static void sound(String text, int lines) {
