@@ -1,3 +1,7 @@
+import java.util.ArrayList;
+import java.util.List;
+import java.util.Random;
+
 /** Bounds of orders, cuts, loans, twists and of what will be (part 3), promises 18 to 25. */
 public final class SearchBoundsTest {
   private static final Kit KIT = new Kit("SearchBoundsTest");
@@ -11,6 +15,8 @@ public final class SearchBoundsTest {
     ordersByPurses();
     ordersOfTwelve();
     ordersThatTurnBack();
+    ordersByAPlainSearch();
+    ordersThatNeverCome();
     dropsAsked();
     dropsAtLoads();
     dropsOfTwelve();
@@ -24,6 +30,7 @@ public final class SearchBoundsTest {
     twistsOfTwelve();
     partnersAsked();
     partnersFirst();
+    whatWasUndoneWeighsNothing();
     livesAsked();
     livesTo99();
     aheadsAsked();
@@ -139,6 +146,103 @@ public final class SearchBoundsTest {
     RopeLedger never = KIT.sound("person a east 60 1;person b west 0 1;" + "debt a b 5 0 99;".repeat(9) + "debt b a 46 0 99;");
     KIT.due("45 for 46, by any of many ways", never.order(1023, 0, 0), -2);
     KIT.due("without it", never.order(511, 0, 8), 8);
+  }
+
+  /** All orders of eleven would take minutes each; what was tried in vain must not be tried again. */
+  private static void ordersThatNeverCome() {
+    RopeLedger x = KIT.sound("person a east 11 1;person b west 0 1;" + "debt a b 1 0 99;".repeat(9) + "debt b a 12 0 99;plank 1;law bear owed"
+        + "+0".repeat(31) + ";");
+    x.tie(0, 1, 1, 99);
+    x.tie(0, 1, 1, 99);
+    KIT.due("11 for 12, whatever comes first", x.order(4095, 0, 0), -2);
+    KIT.due("11 for 12, with a load", x.order(4095, 1, 11), -2);
+    KIT.due("without the 12", x.order(4095 - 512, 1, 10), 11);
+  }
+
+  /** Each order asked is the first that a search without shortcuts finds, most of them only behind much turning back. */
+  private static void ordersByAPlainSearch() {
+    Random random = new Random(18);
+    int turned = 0;
+    for (int round = 0; round < 20000; round++) {
+      PlainOrder plain = new PlainOrder(random);
+      boolean can = plain.search(0xff0);
+      boolean much = can && plain.turns > 40;
+      if (!much && round % 400 != 0) {
+        continue;
+      }
+      turned += much ? 1 : 0;
+      RopeLedger x = plain.told();
+      for (int k = 0; k < 8; k++) {
+        KIT.due("round " + round + ": order(4080, " + plain.load + ", " + k + ")", x.order(0xff0, plain.load, k), can ? plain.order.get(k) : -2);
+      }
+    }
+    KIT.due("how many behind much turning back: " + turned, turned > 50, true);
+  }
+
+  /** Four persons, each with a strand that stays and bears what its purse is modulo 7; eight debts that bear nothing are to be paid. */
+  private static final class PlainOrder {
+    private static final String[] NAMES = {"a", "b", "c", "d"};
+    final int[] told = new int[4];
+    final int[] purse;
+    final int[] from = new int[12];
+    final int[] to = new int[12];
+    final int[] owed = new int[12];
+    final int load;
+    final List<Integer> order = new ArrayList<>();
+    int turns;
+
+    PlainOrder(Random random) {
+      for (int i = 0; i < 4; i++) {
+        told[i] = 40 + random.nextInt(60);
+      }
+      purse = told.clone();
+      for (int i = 4; i < 12; i++) {
+        from[i] = random.nextInt(4);
+        to[i] = 1 - from[i] % 2 + 2 * random.nextInt(2);
+        owed[i] = 1 + random.nextInt(40);
+      }
+      load = 12 + random.nextInt(4);
+    }
+
+    RopeLedger told() {
+      StringBuilder text = new StringBuilder();
+      for (int i = 0; i < 4; i++) {
+        text.append("person " + NAMES[i] + (i % 2 == 0 ? " east " : " west ") + told[i] + " 1;");
+      }
+      text.append("debt a b 999 0 99;debt b a 999 0 99;debt c d 999 0 99;debt d c 999 0 99;");
+      for (int i = 4; i < 10; i++) {
+        text.append("debt " + NAMES[from[i]] + " " + NAMES[to[i]] + " " + owed[i] + " 0 99;");
+      }
+      RopeLedger x = KIT.sound(text.append("law bear (owed = 999) * (rich - rich / 7 * 7);").toString());
+      x.tie(from[10], to[10], owed[10], 99);
+      x.tie(from[11], to[11], owed[11], 99);
+      return x;
+    }
+
+    boolean search(int bits) {
+      if (bits == 0) {
+        return true;
+      }
+      for (int i = 4; i < 12; i++) {
+        if ((bits >> i & 1) == 0 || purse[from[i]] < owed[i]) {
+          continue;
+        }
+        pay(i, owed[i]);
+        order.add(i);
+        if (purse[0] % 7 + purse[1] % 7 + purse[2] % 7 + purse[3] % 7 >= load && search(bits & ~(1 << i))) {
+          return true;
+        }
+        order.remove(order.size() - 1);
+        pay(i, -owed[i]);
+        turns++;
+      }
+      return false;
+    }
+
+    private void pay(int i, int much) {
+      purse[from[i]] -= much;
+      purse[to[i]] += much;
+    }
   }
 
   /** "a load 1 .. 9999; 0: it BEARS less now); -2: by none; NONE: no such load." */
@@ -402,6 +506,37 @@ public final class SearchBoundsTest {
     partners("a 1 adds to an odd one", 1, new int[] {1, 5}, 1, 0);
     partners("1 and 1 add 1", 3, new int[] {1, 1, 6, 6}, 1, 0, 3, 2);
     partners("6 is enough for 1 to be alone", 1, new int[] {1, 1, 6, 6}, -2, -2, 3, 2);
+    partners("one of two twists is made, one is left: 4 and 4", 2, new int[] {9, 9, 1, 4, 4, 1, 1}, 1, 0, -2, 4, 3, -2, -2);
+    partners("two of three twists are made, one is left: 4 and 4", 3, new int[] {9, 9, 8, 8, 1, 4, 4, 1, 1}, 1, 0, 3, 2, -2, 6, 5, -2, -2);
+  }
+
+  /** A strand that was tied and undone is in none of the sums, whatever was asked while it stood. */
+  private static void whatWasUndoneWeighsNothing() {
+    RopeLedger x = KIT.sound(TWO + "debt a b 10 0 99;debt a b 20 0 99;twist 0 1;plank 1;");
+    for (int round = 0; round < 2; round++) {
+      KIT.due("without it", x.twists(0), 31);
+      KIT.due("without it", x.twists(1), 46);
+      KIT.due("without it", x.twists(5), 46);
+      KIT.due("without it", x.drop(47), 0);
+      KIT.due("without it", x.drop(46), 1);
+      KIT.due("without it", x.drop(2), 3);
+      KIT.due("without it", x.loan(47), 1);
+      KIT.due("without it", x.strike(0, 1), 0);
+      KIT.due("without it", x.rests(30), 2);
+      KIT.due("without it", x.partner(1, 0), 1);
+      x.tie(1, 0, 300, 99);
+      x.twist(1, 2);
+      KIT.due("with it", x.twists(0), 331);
+      KIT.due("with it", x.twists(1), 331 + 160);
+      KIT.due("with it", x.partner(1, 0), -2);
+      KIT.due("with it", x.drop(491), 1);
+      KIT.due("with it", x.drop(481), 2);
+      KIT.due("with it", x.loan(492), 1);
+      KIT.due("with it", x.strike(0, 1), 30);
+      KIT.due("with it", x.rests(30), 1);
+      x.undo();
+      KIT.due("undone", x.undo(), 0);
+    }
   }
 
   private static void partners(String why, int k, int[] owed, int... want) {

@@ -19,6 +19,7 @@ public final class StandBoundsTest {
     signsOfAnE();
     valuesOfAnE();
     productsBeyondALong();
+    valuesOfLongEs();
     bearingByLaw();
     bearingWithoutLaw();
     bearingOfTwists();
@@ -358,11 +359,35 @@ public final class StandBoundsTest {
 
   /** Products that a long would wrap to 0, or to a small value, are errors all the same. */
   private static void productsBeyondALong() {
+    for (int k = 0; k <= 39; k++) {
+      KIT.due("2 to the " + k, worth(power(k)), 1L << k);
+      KIT.due("2 to the " + k + " below 0", worth("0-" + power(k)), -(1L << k));
+      KIT.due("2 to the " + k + " times 1", worth("(" + power(k) + ")*1"), 1L << k);
+      KIT.due("1 times 2 to the " + k, worth("1*(" + power(k) + ")"), 1L << k);
+      KIT.due("2 to the 39", worth("(" + power(k) + ")*(" + power(39 - k) + ")"), 1L << 39);
+      KIT.due("2 to the 40 is beyond", worth("(" + power(k) + ")*(" + power(40 - k) + ")"), ERROR);
+    }
     for (int k = 25; k <= 39; k++) {
       KIT.due("2 to the " + k + " times 2 to the " + (64 - k), worth("(" + power(k) + ")*(" + power(64 - k) + ")"), ERROR);
       KIT.due("below 0", worth("(0-" + power(k) + ")*(" + power(64 - k) + ")"), ERROR);
       KIT.due("of two below 0", worth("(0-" + power(k) + ")*(0-" + power(64 - k) + ")"), ERROR);
     }
+  }
+
+  /** An E of all 64 knots: each of them counts. */
+  private static void valuesOfLongEs() {
+    for (int nots = 1; nots <= 63; nots++) {
+      KIT.due(nots + " times not", worth("not ".repeat(nots) + "5"), nots % 2 == 0 ? 1 : 0);
+    }
+    KIT.due("55 nots in brackets", worth("(not ".repeat(8) + "not ".repeat(47) + "0" + ")".repeat(8)), 1);
+    KIT.due("56 nots in brackets", worth("(not ".repeat(8) + "not ".repeat(48) + "0" + ")".repeat(8)), 0);
+    KIT.due("61 nots in brackets, and a sum", worth("(not ".repeat(8) + "not ".repeat(53) + "0" + ")".repeat(8) + "+9"), 10);
+    KIT.due("32 ones", worth("1" + "+1".repeat(31)), 32);
+    KIT.due("32 ones, one less the others", worth("1" + "-1".repeat(31)), -30);
+    KIT.due("deep on the right", worth("1+(1+(1+(1+(1+(1+(1+(1+(1*2))))))))"), 10);
+    KIT.due("deep on the left", worth("((((((((2*1)+1)+1)+1)+1)+1)+1)+1)+1"), 10);
+    KIT.due("each sign waits for the next", worth("0 or 1 and not 2 < 3 + 4 * (0 or 1 and not 5 < 3 + 4 * 5)"), 0);
+    KIT.due("each sign waits for the next", worth("0 or 1 and not 2 < 2 + 4 * (0 or 1 and not 5 < 3 + 4 * 5)"), 1);
   }
 
   /** 2 to the k as a product of numbers that an E may have. */

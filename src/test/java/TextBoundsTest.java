@@ -1,3 +1,7 @@
+import java.util.ArrayList;
+import java.util.Arrays;
+import java.util.List;
+
 /** Bounds of a text (part 1 of the document) and of promises 1 to 5: at each, just within it and just beyond it. */
 public final class TextBoundsTest {
   private static final Kit KIT = new Kit("TextBoundsTest");
@@ -20,6 +24,8 @@ public final class TextBoundsTest {
     leastOfOnePlace();
     moreMustCome();
     whatAnEMayBe();
+    wordsOfTheLanguageElsewhere();
+    tokensCutByTheLength();
     toldAlready();
     notToldAhead();
     withinOneSide();
@@ -368,6 +374,81 @@ public final class TextBoundsTest {
     }
   }
 
+  /** Each word of the language stands where the LINES and E say, and is 1 at it elsewhere. */
+  private static void wordsOfTheLanguageElsewhere() {
+    List<String> tokens = new ArrayList<>(Arrays.asList(LANGUAGE));
+    tokens.addAll(Arrays.asList("x", "abcdef", "1", "(", ")", "+", "<", "="));
+    for (String token : tokens) {
+      if (!among(token, "person debt twist cross plank seed law")) {
+        fault(token + " 1;", 1, 0);
+        fault("plank 1;" + token, 1, 8);
+      }
+      stands("person a ", token, " 1 1;", "east west");
+      stands("law ", token, " 1;", "bear fray rent");
+      stands(TWO + "debt a b 1 0 0 ", token, ";", "painted");
+      stands("law bear ", token, ";", "owed frayed age due year rich two 1");
+      stands("law bear ", token, " 1;", "not");
+      stands("law bear ", token, " 1);", "(");
+      stands("law bear 1 ", token, " 1;", "and or + < =");
+      stands("law bear (1 ", token, ";", ")");
+    }
+    fault(TWO + "debt a b 1 0 painted 0;", 1, TWO.length() + 13);
+    fault(TWO + "debt a b 1 0 0 painted painted;", 1, TWO.length() + 23);
+    fault(TWO + "debt painted a b 1 0 0;", 1, TWO.length() + 5);
+  }
+
+  private static boolean among(String token, String those) {
+    return Arrays.asList(those.split(" ")).contains(token);
+  }
+
+  /** A token that may stand there, told by one of the rows that ask for it; else the fault is at it, or behind it where another row may. */
+  private static void stands(String ahead, String token, String behind, String may) {
+    String text = ahead + token + behind;
+    if (among(token, may)) {
+      sound(text);
+      return;
+    }
+    KIT.due("text " + text, Kit.tell(new RopeLedger(), text), -1);
+    boolean elsewhere = ahead.equals("law bear ") && among(token, "owed frayed age due year rich two 1 not (")
+        || ahead.startsWith("law bear ") && !ahead.equals("law bear ") && among(token, "and or + < = )");
+    if (!elsewhere) {
+      fault(text, 1, ahead.length());
+    }
+  }
+
+  /** "The TAPE's first n bytes": a token that goes on behind them ends with them. */
+  private static void tokensCutByTheLength() {
+    cut("plank 9999;", 9, 1, 9);
+    cut("plank 9999;", 10, 2, 6);
+    cut("persona east 1 1;", 6, 1, 6);
+    cut("persona east 1 1;", 7, 1, 0);
+    cut("person abcdefg east 1 1;", 13, 1, 13);
+    cut("person abcdefg east 1 1;", 14, 1, 7);
+    cut("person a eastern 1 1;", 13, 1, 13);
+    cut("person a eastern 1 1;", 14, 1, 9);
+    cut("law bear 1<=2;", 11, 1, 11);
+    cut("law bear 1<=2;", 12, 1, 12);
+    cut("law bear 1<=2;", 13, 1, 13);
+    cut("law bear owedx;", 13, 1, 13);
+    cut("law bear owedx;", 14, 1, 9);
+    cut("law bear 100000;", 13, 1, 13);
+    cut("law bear 100000;", 14, 2, 9);
+    cut("law bearx 1;", 8, 1, 8);
+    cut("law bearx 1;", 9, 1, 4);
+    RopeLedger x = new RopeLedger();
+    Kit.feed(x, "plank 7;plank 8;");
+    KIT.due("up to the first sign", x.text(8), 1);
+    KIT.due("plank", x.count(12), 7);
+  }
+
+  private static void cut(String text, int n, int number, int place) {
+    RopeLedger x = new RopeLedger();
+    Kit.feed(x, text);
+    KIT.due("the first " + n + " of " + text, x.text(n), -1);
+    KIT.due("fault of the first " + n + " of " + text, x.fault(0), number);
+    KIT.due("its place in the first " + n + " of " + text, x.fault(1), place);
+  }
+
   /** "told already: a PERSON's name (at W), plank, seed (at the word), a law of its KIND (at KIND)". */
   private static void toldAlready() {
     fault("person a east 1 1;person a east 1 1;", 3, 25);
@@ -612,6 +693,9 @@ public final class TextBoundsTest {
       KIT.due("knots", y.count(9), 64);
       KIT.fault(y, knots + "law rent 1;", 2, knots.length() + 9);
       KIT.fault(y, "law bear ((((1+2*3", 1, 18);
+      KIT.fault(y, "law bear not 1+", 1, 15);
+      KIT.due("no sign of the other text waits", Kit.tell(y, TWO + "debt a b 1 0 0;law bear 7;"), 4);
+      KIT.due("works out", y.law(0, 0), 7);
       KIT.due("another", Kit.tell(y, TWO + "debt a b 1 0 0;law bear ((((((((2+3))))))))*4;"), 4);
       KIT.due("works out", y.law(0, 0), 20);
     }
