@@ -29,11 +29,11 @@ public final class RopeLedger {
     private int faultPlace = NONE;
     private final Teller teller = new Teller(tape);
     private Tale tale = new Tale();
-    private final Bridge first = new Bridge();
-    private final Bridge now = new Bridge();
-    private final Bridge image = new Bridge();
+    private final Bridge first = new Bridge(tale);
+    private final Bridge now = new Bridge(tale);
+    private final Bridge image = new Bridge(tale);
     private boolean imageKept;
-    private final Bridge trial = new Bridge();
+    private final Bridge trial = new Bridge(tale);
     private final Bridge[] saved = new Bridge[UNDO_ROOM];
     private int savedNext;
     private int savedCount;
@@ -45,11 +45,8 @@ public final class RopeLedger {
 
     public RopeLedger() {
         for (int i = 0; i < UNDO_ROOM; i++) {
-            saved[i] = new Bridge();
+            saved[i] = new Bridge(tale);
         }
-        tale.clear();
-        first.clear(tale);
-        now.clear(tale);
     }
 
     // ---- the text
@@ -655,6 +652,10 @@ public final class RopeLedger {
         boolean plankTold;
         boolean seedTold;
 
+        Tale() {
+            clear();
+        }
+
         void clear() {
             persons = 0;
             crossings = 0;
@@ -780,14 +781,17 @@ public final class RopeLedger {
                 case Tokens.BY: return right == 0 ? ERROR : left / right;
                 case Tokens.TIMES:
                     // a product may leave what a long holds, so its size is looked at ahead of it
-                    boolean huge = left != 0 && Math.abs(right) > MOST_VALUE / Math.abs(left);
-                    return huge ? ERROR : left * right;
+                    long most = left == 0 ? MOST_VALUE : MOST_VALUE / (left < 0 ? -left : left);
+                    return right > most || right < -most ? ERROR : left * right;
                 default: return ERROR;
             }
         }
     }
 
-    /** All that changes: purses, strands, crossings made, the plank and the year. */
+    /**
+     * All that changes: purses, strands, crossings made, the plank and the year. The numbers of persons and strands
+     * that its rows keep were looked at when they were put there, so they are not looked at again.
+     */
     private static final class Bridge {
         static final int THERE = 0;
         static final int PAID = 1;
@@ -818,6 +822,10 @@ public final class RopeLedger {
         int strands;
         int plank;
         int year;
+
+        Bridge(Tale told) {
+            clear(told);
+        }
 
         void clear(Tale told) {
             tale = told;
@@ -1457,29 +1465,25 @@ public final class RopeLedger {
             value = letters < 6 ? value << 5 * (6 - letters) : value;
         }
 
+        /** Which word of the row stands at the place, of so many letters; NONE if none does. */
         private int wordKind(int letters) {
             int number = 0;
-            int start = 0;
+            int letter = 0;
+            boolean alike = true;
             for (int i = 0; i < WORDS.length(); i++) {
-                if (WORDS.charAt(i) == ' ') {
-                    if (i - start == letters && standsAtPlace(start, i)) {
-                        return number;
-                    }
+                char sign = WORDS.charAt(i);
+                if (sign != ' ') {
+                    alike = alike && letter < letters && place + letter < length && bytes[place + letter] == sign;
+                    letter++;
+                } else if (alike && letter == letters) {
+                    return number;
+                } else {
                     number++;
-                    start = i + 1;
+                    letter = 0;
+                    alike = true;
                 }
             }
             return NONE;
-        }
-
-        private boolean standsAtPlace(int start, int end) {
-            for (int i = start; i < end; i++) {
-                int at = place + i - start;
-                if (at < 0 || at >= length || bytes[at] != WORDS.charAt(i)) {
-                    return false;
-                }
-            }
-            return true;
         }
 
         private void readNumber() {
@@ -1541,7 +1545,7 @@ public final class RopeLedger {
         private final Tokens tokens;
         private final LawReader lawReader;
         Tale tale = new Tale();
-        final Bridge bridge = new Bridge();
+        final Bridge bridge = new Bridge(tale);
         int faultNumber;
         int faultPlace;
         /** The number or person that was read last. */

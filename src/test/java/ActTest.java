@@ -230,5 +230,17 @@ public final class ActTest {
     x = KIT.told(TWO + "debt b a 40 0 9;debt a b 40 98 9;twist 0 1;law fray 2 + two * 5;", 6);
     x.years(1);
     KIT.due("the twist was still there", x.strand(0, 3), 7);
+    x = KIT.told(TWO + "debt b a 40 0 9;debt a b 40 98 9;debt b a 40 0 9;debt a b 40 0 9;twist 0 1;twist 2 3;law rent 3 + two * 5;", 9);
+    x.years(1);
+    KIT.due("the twist is gone by the next step", x.strand(0, 2), 43);
+    KIT.due("what snapped has no rent", x.strand(1, 2), 40);
+    KIT.due("the other twist is there", x.strand(2, 2), 48);
+    x = KIT.told(TWO + "debt a b 20 0 0;debt b a 30 0 9;cross a 0 0;plank 9;law fray rich;law rent rich / 10;", 8);
+    x.years(1);
+    KIT.due("frayed by the purse ahead of paying", x.strand(0, 3), 50);
+    KIT.due("grown by the purse ahead of paying, paid then", x.strand(0, 2), 25);
+    KIT.due("of b, too", x.strand(1, 3), 30);
+    KIT.due("of b, too", x.strand(1, 2), 33);
+    KIT.due("a has paid 25", Kit.person(x, 0, 0), 25);
   }
 }

@@ -160,12 +160,15 @@ final class Texts {
 
   private static void changeToken(StringBuilder text, Random random) {
     String[] lines = text.toString().split(";");
-    String line = lines[random.nextInt(lines.length)];
+    String line = lines.length == 0 ? "" : lines[random.nextInt(lines.length)];
     if (random.nextBoolean()) {
       text.append(line).append(';');
       return;
     }
     String[] words = line.split(" ");
+    if (words.length == 0) {
+      return;
+    }
     int at = text.indexOf(line);
     int word = random.nextInt(words.length);
     words[word] = random.nextBoolean() ? PIECES[random.nextInt(PIECES.length)] : words[random.nextInt(words.length)];

@@ -19,6 +19,7 @@ public final class UndoBoundsTest {
     imagesAndTexts();
     imagesAndUndoing();
     imagesAndSags();
+    imagesAndTheTape();
     countsAsked();
     countsOfStrands();
     countsOfCrossings();
@@ -294,6 +295,24 @@ public final class UndoBoundsTest {
     KIT.due("sags", x.count(13), 2);
     KIT.due("known by", x.count(14), 2);
     KIT.due("sags go on from there", x.strikes(1), 2);
+  }
+
+  /** The tape and the fault "of the latest text()" are none of what an image keeps. */
+  private static void imagesAndTheTape() {
+    RopeLedger x = KIT.sound(SOME);
+    KIT.fault(x, "plank 1000;", 2, 6);
+    Kit.feed(x, "plank 7;            ");
+    x.keep();
+    Kit.feed(x, "plank 9;            ");
+    x.back();
+    KIT.due("what was fed since is there", x.feed(0x20202020, 0x20202020, 0x20202020, 0x20202020, 0x20202020), 60);
+    KIT.due("two planks", x.text(60), -1);
+    KIT.due("told already", x.fault(0), 3);
+    KIT.due("at the second", x.fault(1), 20);
+    KIT.due("back", x.back(), 0);
+    KIT.due("of the latest text", x.fault(0), 3);
+    KIT.due("of the latest text", x.fault(1), 20);
+    KIT.due("the tape stays empty", x.text(1), -2);
   }
 
   /** "NONE for another what." */
