@@ -1243,7 +1243,7 @@ public final class RopeLedger {
                     bridge.payOut(i);
                 }
             }
-            boolean borne = wanted == 0 || bridge.bridgeBears() >= load;
+            boolean borne = bridge.bridgeBears() >= load;
             for (int i = 0; i < STRAND_ROOM; i++) {
                 if ((wanted >> i & 1) == 1) {
                     bridge.takeBack(i);

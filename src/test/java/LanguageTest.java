@@ -62,15 +62,10 @@ public final class LanguageTest {
       open.add(method.getName());
     }
     KIT.due("classes inside", RopeLedger.class.getDeclaredClasses().length <= 12, true);
+    fields(RopeLedger.class);
     for (Class<?> inside : RopeLedger.class.getDeclaredClasses()) {
       KIT.due(inside.getName() + " is static", Modifier.isStatic(inside.getModifiers()), true);
-      int fields = 0;
-      for (Field field : inside.getDeclaredFields()) {
-        boolean constant = Modifier.isStatic(field.getModifiers());
-        KIT.due("static " + field.getName() + " is final", !constant || Modifier.isFinal(field.getModifiers()), true);
-        fields += constant ? 0 : 1;
-      }
-      KIT.due("fields of " + inside.getName(), fields <= 20, true);
+      fields(inside);
       for (Method method : inside.getDeclaredMethods()) {
         KIT.due("parameters of " + method, method.getParameterCount() <= 7, true);
         KIT.due("the name of " + method + " isn't of the face", open.contains(method.getName()), false);
@@ -80,6 +75,16 @@ public final class LanguageTest {
       boolean hidden = Modifier.isPrivate(method.getModifiers());
       KIT.due("the name of " + method + " isn't of the face", hidden && open.contains(method.getName()), false);
     }
+  }
+
+  private static void fields(Class<?> type) {
+    int fields = 0;
+    for (Field field : type.getDeclaredFields()) {
+      boolean constant = Modifier.isStatic(field.getModifiers());
+      KIT.due("static " + field.getName() + " is final", !constant || Modifier.isFinal(field.getModifiers()), true);
+      fields += constant ? 0 : 1;
+    }
+    KIT.due("fields of " + type.getName(), fields <= 20, true);
   }
 
   private static void source() throws Exception {
